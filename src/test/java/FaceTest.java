@@ -1,0 +1,39 @@
+import java.lang.reflect.Constructor;
+import java.lang.reflect.Executable;
+import java.lang.reflect.Method;
+import java.lang.reflect.Modifier;
+import java.util.Arrays;
+import java.util.Set;
+import java.util.TreeSet;
+
+/** The public face: just the document's members. */
+public final class FaceTest {
+    public static void main(String[] args) {
+        Due due = new Due("FaceTest");
+        Set<String> face = new TreeSet<>(Arrays.asList(
+            "PageReader()", "int add(long, int)", "int cut(int)", "boolean width(int, int, int)", "int read()",
+            "int wrong()", "int page(int, int)", "int item(int, int, int)", "double conv()", "int most(int)"));
+        Set<String> found = new TreeSet<>();
+        for (Constructor<?> c : PageReader.class.getDeclaredConstructors()) {
+            note(found, c, "PageReader");
+        }
+        for (Method m : PageReader.class.getDeclaredMethods()) {
+            note(found, m, m.getReturnType() + " " + m.getName());
+        }
+        due.is("the face is " + found, found.equals(face), true);
+        due.is("public and final", PageReader.class.getModifiers(), Modifier.PUBLIC | Modifier.FINAL);
+        Arrays.stream(PageReader.class.getDeclaredFields())
+            .forEach(f -> due.is("private " + f.getName(), Modifier.isPrivate(f.getModifiers()), true));
+        due.end();
+    }
+
+    private static void note(Set<String> found, Executable member, String name) {
+        if (!Modifier.isPrivate(member.getModifiers())) {
+            StringBuilder parameters = new StringBuilder();
+            for (Class<?> type : member.getParameterTypes()) {
+                parameters.append(parameters.length() == 0 ? "" : ", ").append(type);
+            }
+            found.add(name + "(" + parameters + ")");
+        }
+    }
+}
