@@ -593,6 +593,8 @@ public final class PageReader {
     /** Goes through the file, command by command. */
     private static final class Reading {
         private static final int VERSION = 2;
+        private static final int UNITS_OF_START = 2;
+        private static final int BYTES_OF_UNITS = 6;
         private static final int NOWHERE = 65535;
         private static final int GREATEST_CHARACTER = 127;
 
@@ -611,7 +613,6 @@ public final class PageReader {
         private int phase;
         private int beginAddress;
         private int lastAddress;
-        private int startAddress;
 
         Reading(Bytes file, Widths widths, Pixels pixels, Pages pages) {
             this.file = file;
@@ -623,7 +624,6 @@ public final class PageReader {
             phase = AT_START;
             beginAddress = NOWHERE;
             lastAddress = NOWHERE;
-            startAddress = 0;
         }
 
         private void clear() {
@@ -634,7 +634,6 @@ public final class PageReader {
             phase = AT_START;
             beginAddress = NOWHERE;
             lastAddress = NOWHERE;
-            startAddress = 0;
         }
 
         /** The address of the first wrong command, or RIGHT_FILE. */
@@ -701,7 +700,6 @@ public final class PageReader {
         }
 
         private boolean start(int address) {
-            startAddress = address;
             phase = OUTSIDE_PAGES;
             return file.number(address + 1, 1) == VERSION
                 && pixels.become(file.number(address + 2, 2), file.number(address + 4, 2), file.number(address + 6, 2));
@@ -739,8 +737,8 @@ public final class PageReader {
         }
 
         private boolean hasUnitsOfStart(int address) {
-            for (int i = 0; i < 6; i++) {
-                if (file.at(address + i) != file.at(startAddress + 2 + i)) {
+            for (int i = 0; i < BYTES_OF_UNITS; i++) {
+                if (file.at(address + i) != file.at(UNITS_OF_START + i)) {
                     return false;
                 }
             }

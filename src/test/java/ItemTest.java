@@ -49,7 +49,7 @@ public final class ItemTest {
     private static void rules() {
         FileMaker file = FileMaker.pageWithoutFont(3, 2, 1000);
         file.rule(130, 1, 100).rule(129, 1, 3).rule(130, 1, 1).rule(129, 0, 3).rule(130, 1, 1);
-        file.rule(129, 1, -3).rule(130, 1, 1).rule(129, -1, 0).rule(130, 1, 1).rule(130, -5, 5).rule(130, 1, 1);
+        file.rule(129, 1, -3).rule(130, 1, 1).rule(129, 1, 0).rule(130, 1, 1).rule(130, -5, 5).rule(130, 1, 1);
         file.rule(129, -32768, -32768).rule(130, 1, 1);
         PageReader x = DUE.reads("rules", file.endWithoutFont(0), 1);
         DUE.is("items", x.page(0, 1), 8);

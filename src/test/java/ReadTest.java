@@ -11,6 +11,7 @@ public final class ReadTest {
         stack(due);
         numbers(due);
         readAgain(due);
+        refusedReadsLeaveNothing(due);
         due.end();
     }
 
@@ -100,5 +101,33 @@ public final class ReadTest {
         due.isExactly("conv() of another file", x.conv(), 1.0);
         due.hasNone("page(0, 0) of another file", () -> x.page(0, 0));
         due.is("most(0) of another file", x.most(0), 0);
+    }
+
+    /** Fonts, places on the stack, pages and pointers of a refused file do not count for the next one. */
+    private static void refusedReadsLeaveNothing(Due due) {
+        FileMaker wrong = new FileMaker().start(3, 2, 1000).define(0, 7, 64).define(5, 1, 1).begin(1).raw(65).end();
+        FileMaker deep = FileMaker.pageWithFont(3, 2).define(6, 1, 1).raw(65, 140, 9, 151, 9, 134, 134, 134, 255);
+        FileMaker behind = new FileMaker().start(3, 2, 1000).define(0, 7, 64).last(0).define(0, 7, 64).raw(0);
+        FileMaker right = FileMaker.pageWithFont(1, 1).rule(130, 1, 1).raw(139, 150, 134, 65, 135).endWithFont(1);
+        PageReader x = new PageReader();
+        refused(due, x, wrong, 25);
+        accepted(due, x, right);
+        refused(due, x, deep, 34);
+        accepted(due, x, right);
+        refused(due, x, behind, 32);
+        accepted(due, x, right);
+    }
+
+    private static void refused(Due due, PageReader x, FileMaker file, int address) {
+        x.cut(x.cut(0));
+        due.refusesAt("a wrong file", file.into(x), address);
+    }
+
+    private static void accepted(Due due, PageReader x, FileMaker file) {
+        x.cut(x.cut(0));
+        due.reads("a right file behind a wrong one", file.into(x), 1);
+        due.is("its items", x.page(0, 1), 2);
+        due.stands("its first item", x, 0, 0, 0, 0, 0, 0);
+        due.stands("its second item", x, 0, 1, 0, 0, 0, 0);
     }
 }
