@@ -4,15 +4,36 @@ import java.util.function.IntSupplier;
 /** Compares answers with those that are due, and ends the test with exit code 1 if one differed. */
 final class Due {
     private final String test;
+    private String sentence = "";
     private int calls = 0;
+    private int callsOfSentence = 0;
     private int wrong = 0;
 
     Due(String test) {
         this.test = test;
     }
 
-    void is(String call, long got, long want) {
+    /** What is compared from here on belongs to this sentence of the document. */
+    void sentence(String words) {
+        endSentence();
+        sentence = words;
+        callsOfSentence = 0;
+    }
+
+    /** A sentence for which nothing was compared has no test. */
+    private void endSentence() {
+        if (!sentence.isEmpty() && callsOfSentence == 0) {
+            tell("no call", "nothing", "an answer");
+        }
+    }
+
+    private void count() {
         calls++;
+        callsOfSentence++;
+    }
+
+    void is(String call, long got, long want) {
+        count();
         if (got != want) {
             tell(call, Long.toString(got), Long.toString(want));
         }
@@ -24,14 +45,14 @@ final class Due {
 
     /** Bit by bit, as CONV is told in steps. */
     void isExactly(String call, double got, double want) {
-        calls++;
+        count();
         if (Double.doubleToLongBits(got) != Double.doubleToLongBits(want)) {
             tell(call, Double.toString(got), Double.toString(want));
         }
     }
 
     void refuses(String call, IntSupplier made, Class<? extends RuntimeException> want) {
-        calls++;
+        count();
         try {
             tell(call, Integer.toString(made.getAsInt()), want.getSimpleName());
         } catch (RuntimeException e) {
@@ -53,7 +74,7 @@ final class Due {
     }
 
     void reads(String what, PageReader x, int pages) {
-        calls++;
+        count();
         try {
             int got = x.read();
             is(what + ": read()", got, pages);
@@ -88,6 +109,7 @@ final class Due {
     }
 
     void end() {
+        endSentence();
         System.out.println(test + ": " + calls + " calls, " + wrong + " answers not as due");
         if (wrong != 0) {
             System.exit(1);
@@ -96,6 +118,7 @@ final class Due {
 
     private void tell(String call, String got, String want) {
         wrong++;
-        System.out.println(test + ": " + call + " answered " + got + ", due is " + want);
+        String where = sentence.isEmpty() ? test : test + " [" + sentence + "]";
+        System.out.println(where + ": " + call + " answered " + got + ", due is " + want);
     }
 }

@@ -82,6 +82,44 @@ final class FileMaker {
         return other;
     }
 
+    /** What is written behind the copy does not change this one. */
+    FileMaker copy() {
+        FileMaker other = new FileMaker().raw(bytes);
+        other.begin = begin;
+        other.last = last;
+        other.pages = pages;
+        other.units = units;
+        return other;
+    }
+
+    /** NOTHING until the next command has the address. */
+    FileMaker nothingsUpTo(int address) {
+        return times(address - here(), 131);
+    }
+
+    /** From H = 0, by moves too great for any font to make them small. */
+    FileMaker farRight(int h) {
+        return far(h, 142, 139, 138);
+    }
+
+    FileMaker farDown(int v) {
+        return far(v, 153, 150, 149);
+    }
+
+    private FileMaker far(int to, int newStride, int stride, int move) {
+        int step = to < 0 ? -8388608 : 8388607;
+        int steps = to / step;
+        if (steps > 0) {
+            raw(newStride).number(step, 3).times(steps - 1, stride);
+        }
+        return raw(move).number(to - steps * step, 3);
+    }
+
+    /** A small rule, to see where the place is. */
+    FileMaker dot() {
+        return rule(130, 1, 1);
+    }
+
     FileMaker firstBytes(int n) {
         return new FileMaker().raw(Arrays.copyOf(bytes, n));
     }

@@ -1,10 +1,18 @@
 /** Promise 8: item, and the place at which each item stands. */
 public final class ItemTest {
     private static final Due DUE = new Due("ItemTest");
+    private static final int LEAST = Integer.MIN_VALUE;
+    private static final int GREATEST = Integer.MAX_VALUE;
 
     public static void main(String[] args) {
+        DUE.sentence("Of item k (from 0) of page p: what = 0 .. 8");
         parts();
+        partsOfRules();
         noSuchItem();
+        noSuchPage();
+        noSuchPart();
+        nothingWasRead();
+        DUE.sentence("2 H, 3 V, 4 HH, 5 VV");
         rules();
         strides();
         pushAndPop();
@@ -32,17 +40,88 @@ public final class ItemTest {
         all("a character on the next page", x, 1, 1, 9, 5, 1, 0, 2, 0, 0, 0, 0);
     }
 
+    /** C of a rule's numbers is told with the CONV of what was read, not of a file that came later. */
+    private static void partsOfRules() {
+        DUE.sentence("6 the rule's width (0 for a character), 7 C of that, 8 C of its height (0 for a character)");
+        FileMaker file = FileMaker.pageWithFont(3, 2).rule(130, 1, 32767).rule(129, 32767, 1).raw(127).endWithFont(0);
+        PageReader x = DUE.reads("rules", file, 1);
+        all("a wide rule", x, 0, 0, 128, 1, 0, 0, 0, 0, 32767, 49151, 2);
+        all("a high rule", x, 0, 1, 128, 32767, 0, 0, 0, 0, 1, 2, 49151);
+        all("a character", x, 0, 2, 127, 0, 1, 0, 2, 0, 0, 0, 0);
+        x.cut(x.cut(0));
+        new FileMaker().start(1, 1, 1000).last(0).close().into(x);
+        all("a wide rule, another file ahead of its read()", x, 0, 0, 128, 1, 0, 0, 0, 0, 32767, 49151, 2);
+    }
+
+    private static PageReader threePages() {
+        FileMaker file = FileMaker.pageWithFont(1, 1).raw(65, 66).end().begin(2).end().begin(3).raw(158, 67);
+        return DUE.reads("three pages", file.endWithFont(0), 3);
+    }
+
+    private static void none(PageReader x, int p, int k, int what) {
+        DUE.hasNone("item(" + p + ", " + k + ", " + what + ")", () -> x.item(p, k, what));
+    }
+
     private static void noSuchItem() {
-        FileMaker file = FileMaker.pageWithFont(1, 1).raw(65, 66).end().begin(2).raw(158, 67).endWithFont(0);
-        PageReader x = DUE.reads("two pages", file, 2);
-        int low = Integer.MIN_VALUE;
-        int high = Integer.MAX_VALUE;
-        int[][] none = {{0, 2, 0}, {0, -1, 0}, {1, 1, 0}, {1, -1, 0}, {2, 0, 0}, {-1, 0, 0}, {0, 0, 9}, {0, 0, -1},
-            {low, 0, 0}, {high, 0, 0}, {0, low, 0}, {0, high, 0}, {0, 0, low}, {0, 0, high}, {12, 0, 0}, {0, 200, 0}};
-        for (int[] n : none) {
-            DUE.hasNone("item(" + n[0] + ", " + n[1] + ", " + n[2] + ")", () -> x.item(n[0], n[1], n[2]));
+        DUE.sentence("NoSuchElementException: there is none (no item)");
+        PageReader x = threePages();
+        for (int what = 0; what < 9; what++) {
+            none(x, 0, 2, what);
+            none(x, 0, -1, what);
+            none(x, 1, 0, what);
+            none(x, 1, -1, what);
+            none(x, 2, 1, what);
+            none(x, 2, -1, what);
         }
-        DUE.is("item(1, 0, 0)", x.item(1, 0, 0), 67);
+        for (int k : new int[] {3, 199, 200, LEAST, GREATEST}) {
+            none(x, 0, k, 0);
+            none(x, 2, k, 0);
+        }
+        DUE.is("item(0, 0, 0)", x.item(0, 0, 0), 65);
+        DUE.is("item(0, 1, 0)", x.item(0, 1, 0), 66);
+        DUE.is("item(2, 0, 0)", x.item(2, 0, 0), 67);
+    }
+
+    private static void noSuchPage() {
+        DUE.sentence("NoSuchElementException: there is none (no page)");
+        PageReader x = threePages();
+        for (int p : new int[] {-1, 3, 4, 11, 12, LEAST, GREATEST}) {
+            none(x, p, 0, 0);
+            none(x, p, -1, 0);
+            none(x, p, 0, 8);
+        }
+        PageReader y = DUE.reads("no pages", FileMaker.withoutPages(), 0);
+        none(y, 0, 0, 0);
+    }
+
+    private static void noSuchPart() {
+        DUE.sentence("NoSuchElementException: what is not 0 .. 8");
+        PageReader x = threePages();
+        FileMaker rule = FileMaker.pageWithoutFont(1, 1, 1000).dot();
+        PageReader y = DUE.reads("a rule", rule.endWithoutFont(0), 1);
+        for (int what : new int[] {-1, 9, 10, 128, LEAST, GREATEST}) {
+            none(x, 0, 0, what);
+            none(x, 0, 1, what);
+            none(x, 2, 0, what);
+            none(x, 0, 2, what);
+            none(y, 0, 0, what);
+        }
+        DUE.is("item(0, 0, 8) of a character", x.item(0, 0, 8), 0);
+        DUE.is("item(0, 0, 8) of a rule", y.item(0, 0, 8), 1);
+    }
+
+    private static void nothingWasRead() {
+        DUE.sentence("NoSuchElementException: there is none, since nothing was read");
+        PageReader x = FileMaker.pageWithFont(1, 1).raw(65).endWithFont(0).reader();
+        none(x, 0, 0, 0);
+        DUE.reads("an item", x, 1);
+        DUE.is("item(0, 0, 0)", x.item(0, 0, 0), 65);
+        x.add(0, 1);
+        DUE.is("item(0, 0, 0) behind add", x.item(0, 0, 0), 65);
+        DUE.refuses("read()", x::read, UnsupportedOperationException.class);
+        for (int what = 0; what < 9; what++) {
+            none(x, 0, 0, what);
+        }
     }
 
     /** Rules that are no items move all the same. */

@@ -2,6 +2,11 @@
 public final class ReadTest {
     public static void main(String[] args) {
         Due due = new Due("ReadTest");
+        howManyPages(due);
+        notRight(due);
+        nothingWasReadThen(due);
+        fileStays(due);
+        due.sentence("Reads the file");
         due.reads("no pages", FileMaker.withoutPages(), 0);
         due.reads("an empty page", FileMaker.pageWithoutFont(1, 1, 1).endWithoutFont(0), 1);
         nothingAndDefineAnywhere(due);
@@ -13,6 +18,65 @@ public final class ReadTest {
         readAgain(due);
         refusedReadsLeaveNothing(due);
         due.end();
+    }
+
+    private static void howManyPages(Due due) {
+        due.sentence("Reads the file: how many pages it has");
+        for (int pages = 0; pages <= 12; pages++) {
+            FileMaker file = new FileMaker().start(1, 1, 1000);
+            for (int p = 0; p < pages; p++) {
+                file.begin(7).end();
+            }
+            PageReader x = due.reads(pages + " pages", file.last(0).close(), pages);
+            for (int p = 0; p < pages; p++) {
+                due.is("address of page " + p, x.page(p, 2), 8 + 6 * p);
+            }
+        }
+    }
+
+    private static void notRight(Due due) {
+        due.sentence("UnsupportedOperationException: it is not right");
+        PageReader x = new PageReader();
+        due.refuses("read() of an empty file", x::read, UnsupportedOperationException.class);
+        due.refuses("read() again", x::read, UnsupportedOperationException.class);
+        FileMaker.withoutPages().into(x);
+        due.reads("a right file", x, 0);
+        x.add(223, 1);
+        due.refuses("read() with a byte more", x::read, UnsupportedOperationException.class);
+        x.cut(2);
+        due.refuses("read() with a byte less", x::read, UnsupportedOperationException.class);
+        x.add(223, 1);
+        due.reads("a right file again", x, 0);
+    }
+
+    /** Wherever it is found wrong, nothing of it and nothing of the file before is left. */
+    private static void nothingWasReadThen(Due due) {
+        due.sentence("nothing was read then");
+        FileMaker file = FileMaker.pageWithFont(3, 2).raw(136, 4, 65, 131).end().begin(2).raw(158, 66).end();
+        file.last(0).raw(131).define(0, 7, 64).close();
+        int[] addresses = {0, 8, 14, 19, 20, 23, 24, 25, 30, 32, 33, 45, 46, 52};
+        for (int address : addresses) {
+            PageReader x = due.reads("a right file", file, 2);
+            due.is("most(0)", x.most(0), 4);
+            x.cut(x.cut(0));
+            file.changed(address, 255).into(x);
+            due.refusesAt("wrong at " + address, x, address);
+            due.hasNone("page(1, 0)", () -> x.page(1, 0));
+            due.hasNone("item(1, 0, 0)", () -> x.item(1, 0, 0));
+        }
+    }
+
+    private static void fileStays(Due due) {
+        due.sentence("Reads the file: it stays as it is");
+        PageReader x = FileMaker.withoutPages().reader();
+        due.reads("a right file", x, 0);
+        due.is("cut(0)", x.cut(0), 28);
+        x.add(0, 1);
+        due.refusesAt("a wrong file", x, 20);
+        due.is("cut(0)", x.cut(0), 29);
+        due.refusesAt("the same file", x, 20);
+        due.is("cut(1)", x.cut(1), 28);
+        due.reads("a right file", x, 0);
     }
 
     private static void nothingAndDefineAnywhere(Due due) {

@@ -3,6 +3,17 @@ public final class WrongTest {
     private static final Due DUE = new Due("WrongTest");
 
     public static void main(String[] args) {
+        firstWrongCommand();
+        behindClose();
+        missingCommand();
+        noneOrRight();
+        cannotStandThere();
+        wrongNumber();
+        notWhole();
+        lookedForAtEnd();
+        lookedForAtLast();
+        lookedForAtClose();
+        DUE.sentence("A command is wrong that cannot stand there, has a wrong number, or is not whole: more of them");
         starts();
         commandsThatCannotStandThere();
         pointers();
@@ -15,6 +26,158 @@ public final class WrongTest {
         shortFiles();
         latestRead();
         DUE.end();
+    }
+
+    private static void firstWrongCommand() {
+        DUE.sentence("The address of the command at which the latest read() found the file wrong");
+        FileMaker file = FileMaker.pageWithFont(1, 1).raw(131, 131, 131).endWithFont(0);
+        DUE.reads("right", file, 1);
+        DUE.refusesAt("wrong at 22", file.changed(22, 255), 22);
+        DUE.refusesAt("wrong at 20 and 22", file.changed(20, 255, 131, 255), 20);
+        DUE.refusesAt("wrong at 20 and at CLOSE", file.changed(20, 135).changed(45, 3), 20);
+        DUE.refusesAt("wrong at the last byte of a command", file.changed(18, 65), 14);
+        PageReader x = file.changed(22, 255).reader();
+        DUE.refusesAt("the first read()", x, 22);
+        x.cut(x.cut(0));
+        file.changed(21, 255).into(x);
+        DUE.is("wrong() ahead of the second read()", x.wrong(), 22);
+        DUE.refusesAt("the second read()", x, 21);
+        x.cut(x.cut(0));
+        DUE.refusesAt("the third read()", file.firstBytes(5).into(x), 0);
+    }
+
+    private static void behindClose() {
+        DUE.sentence("(that of CLOSE also for what is behind it)");
+        FileMaker file = new FileMaker().start(1, 1, 1000).raw(131, 131, 131).last(0);
+        int close = file.here();
+        file.raw(169).number(close - 12, 2).raw(2);
+        DUE.refusesAt("nothing", file.copy(), close);
+        DUE.refusesAt("one byte", file.copy().raw(223), close);
+        DUE.refusesAt("four bytes", file.copy().times(4, 223), close);
+        DUE.reads("five bytes", file.copy().times(5, 223), 0);
+        DUE.refusesAt("six bytes", file.copy().times(6, 223), close);
+        DUE.refusesAt("another byte", file.copy().times(4, 223).raw(222), close);
+        DUE.refusesAt("a command", file.copy().times(4, 223).raw(131), close);
+        DUE.refusesAt("a file", file.copy().times(5, 223).start(1, 1, 1000), close);
+    }
+
+    private static void missingCommand() {
+        DUE.sentence("(.. the file's length when a command is missing)");
+        FileMaker file = new FileMaker();
+        DUE.refusesAt("START", file.copy(), 0);
+        DUE.refusesAt("LAST", file.start(1, 1, 1000).copy(), 8);
+        DUE.refusesAt("LAST, behind DEFINE", file.define(0, 1, 1).copy(), 14);
+        DUE.refusesAt("END", file.begin(1).copy(), 19);
+        DUE.refusesAt("END, behind FONT", file.raw(158).copy(), 20);
+        DUE.refusesAt("POP and END", file.copy().raw(134), 21);
+        DUE.refusesAt("LAST, behind a page", file.end().copy(), 21);
+        DUE.refusesAt("CLOSE and DEFINE", file.last(0).copy(), 33);
+        DUE.refusesAt("CLOSE", file.define(0, 1, 1).copy(), 39);
+        DUE.refusesAt("CLOSE, behind NOTHING", file.raw(131).copy(), 40);
+        DUE.refusesAt("all but START in 600 bytes", new FileMaker().start(1, 1, 1).nothingsUpTo(600), 600);
+    }
+
+    private static void noneOrRight() {
+        DUE.sentence("-1 when it was right, or there was none");
+        PageReader x = new PageReader();
+        DUE.is("wrong() of a new object", x.wrong(), -1);
+        x.add(255, 1);
+        DUE.is("wrong() of a file that was not read", x.wrong(), -1);
+        x.cut(1);
+        x.width(0, 0, 1);
+        DUE.refuses("page(0, 0)", () -> x.page(0, 0), java.util.NoSuchElementException.class);
+        DUE.is("wrong() behind other calls", x.wrong(), -1);
+        DUE.refusesAt("an empty file", x, 0);
+        FileMaker.withoutPages().into(x);
+        DUE.is("wrong() ahead of the next read()", x.wrong(), 0);
+        DUE.reads("right", x, 0);
+        DUE.is("wrong() twice", x.wrong(), -1);
+        x.cut(28);
+        DUE.is("wrong() behind cut", x.wrong(), -1);
+    }
+
+    private static void cannotStandThere() {
+        DUE.sentence("A command is wrong that cannot stand there");
+        FileMaker page = FileMaker.pageWithFont(1, 1);
+        DUE.refusesAt("END outside a page", page.copy().end().endWithFont(0), 21);
+        DUE.refusesAt("SET outside a page", new FileMaker().start(1, 1, 1).raw(65).last(0).close(), 8);
+        DUE.refusesAt("POP outside a page", new FileMaker().start(1, 1, 1).raw(134, 135).last(0).close(), 8);
+        DUE.refusesAt("FONT outside a page",
+            new FileMaker().start(1, 1, 1).define(0, 1, 1).raw(158).last(0).define(0, 1, 1).close(), 14);
+        DUE.refusesAt("PUSH behind LAST", new FileMaker().start(1, 1, 1).last(0).raw(134, 135).close(), 20);
+        DUE.refusesAt("START in a page", page.copy().start(1, 1, 1000).endWithFont(0), 20);
+        DUE.refusesAt("POP of nothing", page.copy().raw(135).endWithFont(0), 20);
+    }
+
+    private static void wrongNumber() {
+        DUE.sentence("A command is wrong that .. has a wrong number");
+        FileMaker page = FileMaker.pageWithFont(1, 1);
+        DUE.refusesAt("PUT 128", page.copy().raw(128, 128).endWithFont(0), 20);
+        DUE.refusesAt("DEFINE 8", page.copy().define(8, 0, 0).endWithFont(0), 20);
+        FileMaker file = page.copy().endWithFont(0);
+        DUE.refusesAt("START: 1", file.changed(1, 1), 0);
+        DUE.refusesAt("a pointer of BEGIN", file.changed(17, 0), 14);
+        DUE.refusesAt("a pointer of LAST", file.changed(23, 15), 21);
+        DUE.refusesAt("a MARK behind LAST", file.changed(36, 8), 33);
+        DUE.refusesAt("a pointer of CLOSE", file.changed(41, 20), 39);
+        DUE.refusesAt("CLOSE: 1", file.changed(42, 1), 39);
+    }
+
+    /** Each command but its last byte, where the whole one could stand; then the whole one. */
+    private static void notWhole() {
+        DUE.sentence("A command is wrong that .. is not whole");
+        int[][] inPage = {{128, 66}, {129, 0, 1, 0, 1}, {130, 0, 1, 0, 1}, {136, 1}, {137, 0, 1}, {138, 0, 0, 1},
+            {140, 1}, {141, 0, 1}, {142, 0, 0, 1}, {144, 1}, {145, 0, 1}, {146, 0, 0, 1}, {147, 1}, {148, 0, 1},
+            {149, 0, 0, 1}, {151, 1}, {152, 0, 1}, {153, 0, 0, 1}, {155, 1}, {156, 0, 1}, {157, 0, 0, 1},
+            {166, 1, 0, 0, 0, 0}};
+        for (int[] command : inPage) {
+            notWhole(FileMaker.pageWithFont(1, 1), command);
+        }
+        notWhole(new FileMaker(), 167, 2, 0, 1, 0, 1, 0, 1);
+        notWhole(new FileMaker().start(1, 1, 1), 132, 0, 0, 255, 255);
+        notWhole(new FileMaker().start(1, 1, 1), 166, 0, 0, 0, 0, 0);
+        notWhole(new FileMaker().start(1, 1, 1), 168, 255, 255, 0, 1, 0, 1, 0, 1, 0, 0, 0);
+        FileMaker close = new FileMaker().start(1, 1, 1).last(0);
+        DUE.refusesAt("169, not whole", close.copy().raw(169, 0, 8), 20);
+        DUE.reads("169, whole", close.copy().raw(169, 0, 8, 2, 223, 223, 223, 223), 0);
+    }
+
+    private static void notWhole(FileMaker before, int... command) {
+        int at = before.here();
+        for (int n = 1; n < command.length; n++) {
+            FileMaker part = before.copy().raw(java.util.Arrays.copyOf(command, n));
+            DUE.refusesAt(n + " bytes of " + command[0], part, at);
+        }
+        DUE.refusesAt(command[0] + ", whole, and no more", before.copy().raw(command), at + command.length);
+    }
+
+    private static void lookedForAtEnd() {
+        DUE.sentence("(What has to be there just at END .. is looked for there)");
+        FileMaker page = FileMaker.pageWithoutFont(1, 1, 1000).raw(134, 131, 134, 131);
+        DUE.refusesAt("the stack is not empty", page.copy().end().last(2).close(), 17);
+        DUE.refusesAt("the page has no END", page.copy(), 17);
+        DUE.reads("the stack is empty in time", page.copy().raw(135, 135).end().last(2).close(), 1);
+    }
+
+    private static void lookedForAtLast() {
+        DUE.sentence("(What has to be there just at .. LAST is looked for there)");
+        FileMaker file = FileMaker.pageWithoutFont(1, 1, 1000).raw(134, 135).end().raw(131);
+        DUE.reads("right", file.copy().last(1).close(), 1);
+        DUE.refusesAt("DEPTH 0", file.copy().last(0).close(), 17);
+        DUE.refusesAt("DEPTH 2", file.copy().last(2).close(), 17);
+        FileMaker right = file.copy().last(1).close();
+        DUE.refusesAt("no pages", right.changed(28, 0), 17);
+        DUE.refusesAt("another MAG", right.changed(25, 233), 17);
+        DUE.refusesAt("another pointer", right.changed(19, 9), 17);
+    }
+
+    private static void lookedForAtClose() {
+        DUE.sentence("(.. and what at the end of the file, at CLOSE.)");
+        FileMaker file = new FileMaker().start(1, 1, 1).define(0, 1, 1).define(1, 1, 1).last(0).define(1, 1, 1).raw(131);
+        DUE.refusesAt("a font is not defined again", file.copy().close(), 39);
+        DUE.refusesAt("a font and CLOSE are missing", file.copy(), 39);
+        DUE.reads("it is, just ahead of CLOSE", file.copy().define(0, 1, 1).close(), 0);
+        DUE.refusesAt("the file does not end", new FileMaker().start(1, 1, 1).last(0).raw(169, 0, 8, 2), 20);
     }
 
     private static void starts() {
