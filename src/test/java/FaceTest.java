@@ -24,7 +24,23 @@ public final class FaceTest {
         due.is("public and final", PageReader.class.getModifiers(), Modifier.PUBLIC | Modifier.FINAL);
         Arrays.stream(PageReader.class.getDeclaredFields())
             .forEach(f -> due.is("private " + f.getName(), Modifier.isPrivate(f.getModifiers()), true));
+        due.sentence("LANGUAGE.md, 1: no private method bears the name of a public one");
+        noPrivateNamesakes(due, PageReader.class);
+        for (Class<?> inside : PageReader.class.getDeclaredClasses()) {
+            noPrivateNamesakes(due, inside);
+        }
         due.end();
+    }
+
+    private static void noPrivateNamesakes(Due due, Class<?> owner) {
+        Set<String> publicNames = new TreeSet<>();
+        for (Method m : PageReader.class.getMethods()) {
+            publicNames.add(m.getName());
+        }
+        for (Method m : owner.getDeclaredMethods()) {
+            boolean namesake = Modifier.isPrivate(m.getModifiers()) && publicNames.contains(m.getName());
+            due.is(owner.getSimpleName() + "." + m.getName(), namesake, false);
+        }
     }
 
     private static void note(Set<String> found, Executable member, String name) {
