@@ -11,8 +11,10 @@ public final class FaceTest {
     public static void main(String[] args) {
         Due due = new Due("FaceTest");
         Set<String> face = new TreeSet<>(Arrays.asList(
-            "PageReader()", "int add(long, int)", "int cut(int)", "boolean width(int, int, int)", "int read()",
-            "int wrong()", "int page(int, int)", "int item(int, int, int)", "double conv()", "int most(int)"));
+            "PageReader()", "int add(long, int) IllegalArgumentException IllegalStateException",
+            "int cut(int) IllegalArgumentException", "boolean width(int, int, int)",
+            "int read() UnsupportedOperationException", "int wrong()", "int page(int, int) NoSuchElementException",
+            "int item(int, int, int) NoSuchElementException", "double conv()", "int most(int)"));
         Set<String> found = new TreeSet<>();
         for (Constructor<?> c : PageReader.class.getDeclaredConstructors()) {
             note(found, c, "PageReader");
@@ -29,6 +31,7 @@ public final class FaceTest {
         for (Class<?> inside : PageReader.class.getDeclaredClasses()) {
             noPrivateNamesakes(due, inside);
         }
+        classesInside(due);
         due.end();
     }
 
@@ -43,13 +46,29 @@ public final class FaceTest {
         }
     }
 
+    private static void classesInside(Due due) {
+        due.sentence("LANGUAGE.md, 1: the classes inside are private or package-visible and static");
+        for (Class<?> inside : PageReader.class.getDeclaredClasses()) {
+            int seen = inside.getModifiers() & (Modifier.PUBLIC | Modifier.PROTECTED | Modifier.STATIC);
+            due.is("modifiers of " + inside.getSimpleName(), seen, Modifier.STATIC);
+        }
+    }
+
+    private static String thrown(Executable member) {
+        Set<String> names = new TreeSet<>();
+        for (Class<?> type : member.getExceptionTypes()) {
+            names.add(" " + type.getSimpleName());
+        }
+        return String.join("", names);
+    }
+
     private static void note(Set<String> found, Executable member, String name) {
         if (!Modifier.isPrivate(member.getModifiers())) {
             StringBuilder parameters = new StringBuilder();
             for (Class<?> type : member.getParameterTypes()) {
                 parameters.append(parameters.length() == 0 ? "" : ", ").append(type);
             }
-            found.add(name + "(" + parameters + ")");
+            found.add(name + "(" + parameters + ")" + thrown(member));
         }
     }
 }
